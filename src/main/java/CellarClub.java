@@ -1,5 +1,3 @@
-import java.util.Arrays;
-
 /** A wine cellar club: members, wines allocated by points, and bins in which the bottles lie. */
 public final class CellarClub {
     public static final int NONE = -99999;
@@ -342,10 +340,6 @@ public final class CellarClub {
             return sumOf(cells);
         }
 
-        void clear() {
-            Arrays.fill(cells, 0);
-        }
-
         void copyFrom(Table other) {
             copyRow(other.cells, cells);
         }
@@ -396,7 +390,6 @@ public final class CellarClub {
             int b = bins;
             size[b] = newSize;
             wineIn[b] = NONE;
-            bottles[b] = 0;
             bins++;
             return b;
         }
@@ -541,10 +534,6 @@ public final class CellarClub {
             }
         }
 
-        void clear() {
-            bins = 0;
-        }
-
         void copyFrom(Rack other) {
             bins = other.bins;
             copyRow(other.size, size);
@@ -553,7 +542,10 @@ public final class CellarClub {
         }
     }
 
-    /** One state of the club: everything but the text, the remembered states and the save slots. */
+    /**
+     * One state of the club: everything but the text, the remembered states and the save slots.
+     * What the rows hold behind the last member, wine or bin is 0, so sums may go over whole rows.
+     */
     private static final class Club {
         private int members;
         private int wines;
@@ -829,23 +821,6 @@ public final class CellarClub {
             return before;
         }
 
-        void clear() {
-            members = 0;
-            wines = 0;
-            Arrays.fill(points, 0);
-            Arrays.fill(owed, 0);
-            Arrays.fill(price, 0);
-            Arrays.fill(bought, 0);
-            Arrays.fill(reserve, 0);
-            Arrays.fill(stage, OPEN);
-            Arrays.fill(corked, 0);
-            ordered.clear();
-            allotted.clear();
-            cellared.clear();
-            drunk.clear();
-            rack.clear();
-        }
-
         void copyFrom(Club other) {
             members = other.members;
             wines = other.wines;
@@ -870,6 +845,7 @@ public final class CellarClub {
         private int length;
         private int at;
         private final Club told = new Club();
+        private final Club nothing = new Club();
 
         int addingFault(int c) {
             if (c < 0 || c > 255) {
@@ -892,7 +868,7 @@ public final class CellarClub {
 
         /** Reads the text into told. Answers the error position, NONE if there is no error. */
         int read() {
-            told.clear();
+            told.copyFrom(nothing);
             at = 0;
             if (length == 0 || signs[0] != 'C') {
                 return at;

@@ -140,9 +140,39 @@ public final class ActionsTest {
         check.due("15: no orders", x.allocate(2), 0);
         check.due("15: reserve without orders", x.wine(2, 2), 5);
         check.due("15: stage without orders", x.wine(2, 3), 1);
+        full(check);
         CellarClub y = Check.loaded("Cw0505");
         check.due("15: no members", y.allocate(0), 0);
         check.due("15: no members, deliver", y.deliver(0), 0);
+    }
+
+    private static void full(Check check) {
+        CellarClub x = new CellarClub();
+        for (int i = 0; i < 6; i++) {
+            x.addMember(i);
+            x.addWine(i + 1, 7);
+        }
+        for (int b = 0; b < 8; b++) {
+            x.addBin(7);
+        }
+        for (int w = 0; w < 6; w++) {
+            for (int m = 0; m < 6; m++) {
+                x.order(m, w, 1);
+            }
+            check.due("26: nobody is short", x.shortest(w), NONE);
+            check.due("23: one for the last", x.wouldGet(5, w), 1);
+            check.due("15: one for each", x.allocate(w), 6);
+            check.due("16: one of each", x.deliver(w), 6);
+        }
+        check.due("16: bins", x.about(8), 2);
+        check.due("16: points of the last", x.member(5, 0), 11);
+        check.due("16: debts of the last", x.member(5, 1), 21);
+        check.due("25: bins", x.fewestBins(), 6);
+        check.due("17: the last bottle", x.drink(5, 5, 1), 0);
+        check.due("19: the last wine", x.cork(4, 5), 1);
+        check.due("18: the last members", x.give(5, 4, 4, 1), 2);
+        check.due("20: the last bins", x.move(5, 7, 5), 5);
+        check.due("21: the last member", x.pay(5), 21);
     }
 
     private static void delivering(Check check) {
@@ -224,6 +254,13 @@ public final class ActionsTest {
         check.due("17: all", x.drink(0, 0, 5), 0);
         check.bins("17: the rest", x, 0, 3, 0);
         check.thrown("17: none left", Check.STATE, () -> x.drink(0, 0, 1));
+        CellarClub z = Check.loaded("Cm000w0105w0203b05b03o0005o0103");
+        for (int w = 0; w < 2; w++) {
+            z.allocate(w);
+            z.deliver(w);
+        }
+        z.drink(0, 0, 1);
+        check.bins("17: from bins with this wine", z, 4, 3);
         CellarClub y = Check.loaded("Cm000w0104b02b02o0004");
         y.allocate(0);
         y.deliver(0);
@@ -301,6 +338,19 @@ public final class ActionsTest {
         check.bins("19: before", y, 2, 1, 0);
         y.cork(0, 0);
         check.bins("19: into the smallest empty bin", y, 2, 0, 1);
+        CellarClub z = Check.loaded("Cm000w0560b03b03b03o0006");
+        z.allocate(0);
+        z.deliver(0);
+        z.move(0, 2, 1);
+        z.move(1, 2, 1);
+        z.cork(0, 0);
+        check.bins("19: into the lowest of those with the least room", z, 3, 2, 1);
+        z.drink(0, 0, 1);
+        z.move(0, 2, 1);
+        z.move(1, 0, 1);
+        check.bins("19: before", z, 3, 1, 1);
+        z.cork(0, 0);
+        check.bins("19: into a bin with one bottle", z, 3, 2, 0);
     }
 
     private static void moving(Check check) {
@@ -396,6 +446,7 @@ public final class ActionsTest {
         }
         for (int left = 13; left >= 0; left--) {
             check.due("22: left", x.undo(), left);
+            check.due("22: order then", x.has(0, 0, 0), left + 6);
         }
         check.due("22: the oldest were forgotten", x.has(0, 0, 0), 6);
         check.thrown("22: at most 14", Check.STATE, () -> x.undo());

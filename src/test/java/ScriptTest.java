@@ -8,6 +8,7 @@ public final class ScriptTest {
         commands(check);
         groupsThatFail(check);
         sequences(check);
+        givingTheSecondWine(check);
         simulations(check);
         simulationsByHand(check);
         check.end();
@@ -20,6 +21,22 @@ public final class ScriptTest {
         x.deliver(0);
         x.allocate(2);
         return x;
+    }
+
+    private static void givingTheSecondWine(Check check) {
+        CellarClub x = Check.loaded("Cm000m000w0109w0109b09b09o0007o0103");
+        for (int w = 0; w < 2; w++) {
+            x.allocate(w);
+            x.deliver(w);
+        }
+        check.due("27: three of wine 1", x.runScript(2, 5011381103L), NONE);
+        check.due("27: three of wine 1, and no more", x.runScript(2, 5011381104L), 1);
+        check.due("27: four of wine 1", x.runScript(1, 50114), 0);
+        check.due("27: four of wine 0", x.runScript(1, 50104), NONE);
+        CellarClub y = Check.loaded("Cm000m000w0109w0109w0109b09o0202");
+        y.allocate(2);
+        y.deliver(2);
+        check.due("27: one of wine 2", y.runScript(2, 5012181201L), NONE);
     }
 
     private static void ranges(Check check) {
@@ -135,6 +152,10 @@ public final class ScriptTest {
         script(check, 3, 610006100061000L, NONE);
         CellarClub y = Check.loaded("Cm000w0104b04o0004");
         check.due("27: order, allocate, deliver", y.runScript(3, 100022000030000L), NONE);
+        check.due("27: a bottle too many is ordered", y.runScript(3, 100052000030000L), NONE);
+        y.addWine(1, 9);
+        check.due("27: no room for five", y.runScript(3, 101052100031000L), 2);
+        check.due("27: room for four", y.runScript(3, 101042100031000L), NONE);
         check.due("27: all at once", y.runScript(3, 200003000080004L), NONE);
         check.due("27: no more empty bins", y.runScript(3, 200003000090001L), 2);
         check.due("27: two commands", y.runScript(2, 3000020000L), 0);

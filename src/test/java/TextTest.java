@@ -43,6 +43,11 @@ public final class TextTest {
         check.due("3: again", x.clearText(), 0);
         Check.write(x, "C");
         check.due("3: the old text is gone", x.errorPosition(), NONE);
+        x.append('!');
+        check.due("3: a wrong end", x.errorPosition(), 1);
+        x.clearText();
+        check.due("3: the error is gone, too", x.errorPosition(), 0);
+        x.append('C');
         check.due("3: the old text is gone for load", x.load(), 0);
     }
 

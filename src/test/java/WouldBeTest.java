@@ -61,9 +61,21 @@ public final class WouldBeTest {
         check.due("25: one", filled("Cm000w0160b03b24b03o0004").fewestBins(), 1);
         check.due("25: two greatest", filled("Cm000w0160b03b05b06b06o0012").fewestBins(), 2);
         check.due("25: all", filled("Cm000w0160b01b01b01b01b01b01b01b01o0008").fewestBins(), 8);
-        // Seven of wine 0 lie in one bin, and the six of wine 1 that came first lie in another.
+        CellarClub v = filled("Cm000w0160b06b06o0012");
+        check.due("25: both", v.fewestBins(), 2);
+        check.due("25: both again", v.fewestBins(), 2);
+        // Six of wine 0 lie in one bin, and seven of wine 1 in the other.
         CellarClub x = filled("Cm000w0160w0160b06b10o0006o0107");
         check.due("25: a bin holds one wine", x.fewestBins(), 2);
+        check.due("25: asked again", x.fewestBins(), 2);
+        x.addBin(1);
+        check.due("25: a bin more", x.fewestBins(), 2);
+        x.addBin(13);
+        check.due("25: a greater bin is no help", x.fewestBins(), 2);
+        x.drink(0, 0, 6);
+        check.due("25: a wine less", x.fewestBins(), 1);
+        x.drink(0, 1, 7);
+        check.due("25: none", x.fewestBins(), 0);
         // The greatest bins for the greatest wine first would take one bin more.
         CellarClub y = filled("Cm000w0160w0160b10b08b08b09o0016o0110");
         check.due("25: 8 and 8, and 10", y.fewestBins(), 3);
