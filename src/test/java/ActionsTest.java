@@ -398,23 +398,29 @@ public final class ActionsTest {
         check.thrown("21: member -1", Check.NO_SUCH, () -> x.pay(-1));
     }
 
-    private static void undoing(Check check) {
-        CellarClub x = new CellarClub();
-        Check.write(x, "Cm009m001w0509w0708b05b08o0005o1006o1103");
-        x.load();
-        String[] before = new String[14];
-        for (int i = 0; i < 14; i++) {
-            before[i] = Check.stateOf(x);
+    private static CellarClub after(int acts) {
+        CellarClub x = Check.loaded("Cm009m001w0509w0708b05b08o0005o1006o1103");
+        for (int i = 0; i < acts; i++) {
             act(x, i);
         }
+        return x;
+    }
+
+    private static void undoing(Check check) {
+        for (int acts = 14; acts > 0; acts--) {
+            CellarClub x = after(acts);
+            check.due("22: states left", x.undo(), acts - 1);
+            check.sameState("22: action " + acts, x, Check.stateOf(after(acts - 1)));
+        }
+        CellarClub x = after(14);
         check.thrown("22: no action, as it throws", Check.STATE, () -> x.allocate(0));
         x.wouldGet(0, 0);
         x.save(0);
         x.append('x');
-        for (int i = 13; i >= 0; i--) {
-            check.due("22: states left", x.undo(), i);
-            check.sameState("22: action " + i, x, before[i]);
+        for (int left = 13; left >= 0; left--) {
+            check.due("22: states left", x.undo(), left);
         }
+        check.sameState("22: all actions", x, Check.stateOf(after(0)));
         check.thrown("22: none is left", Check.STATE, () -> x.undo());
         check.due("22: the text is not undone", x.clearText(), 41);
         check.due("22: the slots are not undone", x.restore(0), 5);

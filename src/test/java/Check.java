@@ -4,6 +4,14 @@ final class Check {
         int run();
     }
 
+    interface Act {
+        int on(CellarClub x);
+    }
+
+    interface Maker {
+        CellarClub make();
+    }
+
     static final Class<? extends RuntimeException> NO_SUCH = IndexOutOfBoundsException.class;
     static final Class<? extends RuntimeException> RANGE = IllegalArgumentException.class;
     static final Class<? extends RuntimeException> STATE = IllegalStateException.class;
@@ -32,6 +40,63 @@ final class Check {
         }
         wrong++;
         System.out.println(what + " " + got + ", due is " + want.getName());
+    }
+
+    /** The call throws this, and all that can be asked then is as on an object without the call. */
+    void refused(String what, Class<? extends RuntimeException> want, Maker maker, Act act) {
+        CellarClub x = maker.make();
+        thrown(what, want, () -> act.on(x));
+        changedNothing(what, x, maker);
+    }
+
+    /** The call answers this, and all that can be asked then is as on an object without the call. */
+    void toldOnly(String what, long want, Maker maker, Act act) {
+        CellarClub x = maker.make();
+        due(what, act.on(x), want);
+        changedNothing(what, x, maker);
+    }
+
+    private void changedNothing(String what, CellarClub x, Maker maker) {
+        asked++;
+        String got = everythingOf(x);
+        String want = everythingOf(maker.make());
+        if (!got.equals(want)) {
+            wrong++;
+            System.out.println(what + " changed " + want + " to " + got);
+        }
+    }
+
+    /** The state, the text, the remembered states and the save slots. Nothing of these is left as it was. */
+    private static String everythingOf(CellarClub x) {
+        StringBuilder s = new StringBuilder(stateOf(x)).append("| text ").append(x.errorPosition());
+        for (int undone = 0; undone < 15; undone++) {
+            int left = tried(() -> x.undo());
+            s.append("| undo ").append(left).append(": ").append(left < 0 ? "" : briefly(x));
+        }
+        for (int slot = 0; slot < 2; slot++) {
+            int asked = slot;
+            int restored = tried(() -> x.restore(asked));
+            s.append("| slot ").append(slot).append(": ").append(restored < 0 ? "" : briefly(x));
+        }
+        int loaded = tried(() -> x.load());
+        s.append("| load ").append(loaded).append(": ").append(loaded < 0 ? "" : briefly(x));
+        return s.append("| length ").append(x.clearText()).toString();
+    }
+
+    private static int tried(Call call) {
+        try {
+            return call.run();
+        } catch (IllegalStateException e) {
+            return -1;
+        }
+    }
+
+    private static String briefly(CellarClub x) {
+        StringBuilder s = new StringBuilder();
+        for (int what = 0; what <= 9; what++) {
+            s.append(x.about(what)).append(' ');
+        }
+        return s.toString();
     }
 
     void bins(String what, CellarClub x, int... bottles) {

@@ -164,21 +164,20 @@ public final class ScriptTest {
     /** The same evenings by the calls of the face, on an object that is made for it. */
     private static int byCalls(CellarClub x, long seed, int m) {
         long r0 = seed;
+        int members = x.about(0);
+        int wines = x.about(1);
         for (int i = 0; i < m; i++) {
             r0 = r0 * 6364136223846793005L + 1442695040888963407L;
             int r = (int) (r0 >>> 33);
-            if (x.about(0) == 0 || x.about(1) == 0) {
-                continue;
-            }
-            int who = r / 8 % x.about(0);
-            int what = r / 64 % x.about(1);
+            int who = r / 8 % members;
+            int what = r / 64 % wines;
             try {
                 if (r % 8 <= 4) {
                     x.drink(who, what, 1 + r / 1024 % 3);
                 } else if (r % 8 == 5) {
                     x.cork(who, what);
                 } else {
-                    x.give(who, r / 1024 % x.about(0), what, 1);
+                    x.give(who, r / 1024 % members, what, 1);
                 }
             } catch (IllegalArgumentException | IllegalStateException e) {
                 continue;
