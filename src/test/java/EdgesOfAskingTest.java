@@ -172,6 +172,9 @@ public final class EdgesOfAskingTest {
                 fewest("Cm000w0101w0101w0101w0101w0101w0101b24b24b24b24b24b24o0001o0101o0201o0301o0401o0501"), 6);
         // 7 + 5 for the twelve, and the 6 for the six; the greatest bin for the six would leave 6 + 5 for the twelve.
         check.due("as much room as bottles", fewest("Cm000w0160w0160b05b06b07o0012o0106"), 3);
+        check.due("20 in the first bin, 1 in the second", fewest("Cm000w0160w0160b24b01b01o0020o0101"), 2);
+        check.due("1 in the first bin, 20 in the second", fewest("Cm000w0160w0160b01b24b01o0001o0120"), 2);
+        check.due("20 in the last bin, 1 in the one before", fewest("Cm000w0160w0160b02b01b24o0020o0101"), 2);
         // 10 needs the bin of 10; 16 needs 8 and 8.
         check.due("not the greatest bins for the most bottles", fewest("Cm000w0160w0160b10b08b08b09o0016o0110"), 3);
     }

@@ -12,6 +12,7 @@ public final class EdgesOfScriptsTest {
         digitsOfTheScript(check);
         theHighestGroupIsTheFirst(check);
         indexOfTheFirstThatFails(check);
+        oneAfterTheOther(check);
         orders(check);
         allocations(check);
         deliveries(check);
@@ -100,6 +101,29 @@ public final class EdgesOfScriptsTest {
 
     private static void one(Check check, int group, boolean succeeds) {
         script(check, 1, group, succeeds ? NONE : 0);
+    }
+
+    /** Each command finds what the ones before it have changed. */
+    private static void oneAfterTheOther(Check check) {
+        CellarClub x = Check.loaded("Cm000m000w0160b04o0004");
+        check.due("an order of four", x.runScript(3, 100042000030000L), NONE);
+        check.due("an order of five, no room", x.runScript(3, 100052000030000L), 2);
+        check.due("allocated twice", x.runScript(2, 2000020000L), 1);
+        check.due("delivered twice", x.runScript(3, 200003000030000L), 2);
+        check.due("four are in the cellar", x.runScript(3, 200003000080004L), NONE);
+        check.due("five are not", x.runScript(3, 200003000080005L), 2);
+        check.due("no bin is empty", x.runScript(3, 200003000090001L), 2);
+        x.allocate(0);
+        check.due("four are drunk", x.runScript(3, 300004000480001L), 2);
+        check.due("four are given", x.runScript(3, 300005010481004L), NONE);
+        check.due("four and no more", x.runScript(3, 300005010481005L), 2);
+        x.deliver(0);
+        x.addBin(4);
+        check.due("four are moved there and back", x.runScript(3, 701047100490001L), NONE);
+        check.due("none is left after four", x.runScript(2, 7010470101L), 1);
+        check.due("two are left after two, no bin is empty", x.runScript(3, 701027010190001L), 2);
+        check.due("not three of two", x.runScript(2, 7010270103L), 1);
+        check.due("a cork that is replaced", x.runScript(2, 6000080004L), NONE);
     }
 
     /** "1 m w x y: order(m, w, xy)." */
@@ -198,6 +222,10 @@ public final class EdgesOfScriptsTest {
         one(check, 50111, false);
         one(check, 51021, false);
         check.due("9 of 60", sixty().runScript(1, 50109), NONE);
+        script(check, 2, 3200051021L, NONE);
+        script(check, 2, 3200051024L, NONE);
+        script(check, 2, 3200051025L, 1);
+        script(check, 2, 3200051011L, 1);
         check.due("nobody", Clubs.empty().runScript(1, 50101), 0);
     }
 

@@ -32,6 +32,8 @@ public final class EdgesOfTermsTest {
         leastRoomFirst(check);
         amongSeveralWithTheWine(check);
         fullBinsHaveNoRoom(check);
+        noBinsOfAnotherWine(check);
+        aBinWithOneBottle(check);
         smallestWithRoomForAll(check);
         smallestAmongSeveral(check);
         greatestIfThereIsNone(check);
@@ -446,6 +448,34 @@ public final class EdgesOfTermsTest {
         replaced(check, "b03b02b09b05", 3, 2, 0, 1);
         replaced(check, "b03b02b09b09", 3, 2, 1, 0);
         replaced(check, "b03b02b09b24", 3, 2, 1, 0);
+    }
+
+    /** "bins that have this wine": neither a lower nor a higher one, though with less room left in another's bin */
+    private static void noBinsOfAnotherWine(Check check) {
+        CellarClub x = Check.loaded("Cm000w0160w0160b10b07o0009o0106");
+        x.allocate(0);
+        x.deliver(0);
+        x.allocate(1);
+        x.deliver(1);
+        check.bins("room for one of each wine", x, 9, 6);
+        x.cork(0, 0);
+        check.bins("wine 0 into its bin", x, 9, 6);
+        x.cork(0, 1);
+        check.bins("wine 1 into its bin", x, 9, 6);
+        check.due("the wine of bin 0", x.bin(0, 1), 0);
+        check.due("the wine of bin 1", x.bin(1, 1), 1);
+    }
+
+    /** "bins that have this wine", also with a single bottle of it */
+    private static void aBinWithOneBottle(Check check) {
+        CellarClub x = Check.loaded("Cm000w0160b03b04b05o0005");
+        x.allocate(0);
+        x.deliver(0);
+        x.move(2, 0, 3);
+        x.move(2, 1, 1);
+        check.bins("a full bin and two with one bottle", x, 3, 1, 1);
+        x.cork(0, 0);
+        check.bins("into the bin with one bottle", x, 3, 2, 0);
     }
 
     private static void laid(Check check, String bins, int n, int... want) {

@@ -12,6 +12,7 @@ public final class EdgesOfTextTest {
         atMost120(check);
         lengths(check);
         previousLength(check);
+        readAgain(check);
         theLetterC(check);
         anyNumberOfParts(check);
         threeDigitsOfPoints(check);
@@ -122,6 +123,24 @@ public final class EdgesOfTextTest {
         check.due("members of " + text, x.about(0), members);
         check.due("wines of " + text, x.about(1), wines);
         check.due("bins of " + text, x.about(2), bins);
+    }
+
+    /** "Checks the text", as it is now: what was read before is no matter. */
+    private static void readAgain(Check check) {
+        CellarClub x = new CellarClub();
+        Check.write(x, "Cm99x");
+        check.due("an error at 4", x.errorPosition(), 4);
+        check.due("the same error again", x.errorPosition(), 4);
+        x.clearText();
+        check.due("an empty text then", x.errorPosition(), 0);
+        x.append('x');
+        check.due("an error at 0", x.errorPosition(), 0);
+        x.clearText();
+        Check.write(x, "Cm999");
+        check.due("no error", x.errorPosition(), NONE);
+        check.due("one member", x.load(), 1);
+        Check.write(x, "m998");
+        check.due("read from the left again", x.load(), 2);
     }
 
     /** "A club is the letter C" */
