@@ -293,6 +293,8 @@ public final class EdgesOfScriptsTest {
         one(check, 81003, false);
         one(check, 81200, true);
         one(check, 81201, false);
+        one(check, 81101, false);
+        one(check, 81105, false);
         one(check, 80100, true);
         one(check, 80101, false);
         one(check, 82000, false);
@@ -321,6 +323,15 @@ public final class EdgesOfScriptsTest {
         check.due("no bins, 1", Clubs.empty().runScript(1, 90001), 0);
         check.due("no empty bins, 0", Clubs.brimful().runScript(1, 90000), NONE);
         check.due("no empty bins, 1", Clubs.brimful().runScript(1, 90001), 0);
+        CellarClub x = Clubs.brimful();
+        for (int w = 0; w < 4; w++) {
+            x.drink(0, w, 8);
+            x.drink(1, w, 8);
+        }
+        check.due("room for 64, and no empty bin", x.runScript(1, 90001), 0);
+        x.drink(2, 3, 8);
+        check.due("an empty bin", x.runScript(1, 90001), NONE);
+        check.due("not two", x.runScript(1, 90002), 0);
     }
 
     /** "and so does any other group" */
